@@ -104,6 +104,11 @@ public final class PromiseTest {
         faultOf("ER0X0R0Y0", 3);
         faultOf("ER\0", 2);
         faultOf("EX345678901234567890123456789012345X", 1);
+        NewRays x = Due.written("ER010S9");
+        Due.write(x, "ER0");
+        Due.is("what was wiped is not looked at", x.fault(), 3);
+        Due.write(x, "");
+        Due.is("all was wiped", x.fault(), 0);
     }
 
     private static void promise5() {
@@ -450,6 +455,7 @@ public final class PromiseTest {
         Due.is("from the readings there are", x.judge(1, 21), NONE);
         Due.is("rested, and fooled again", x.judge(2, 6121), 1);
         Due.is("readings are as they were", x.reader(1, 3), 4);
+        Due.is("7 and one that has readings", x.judge(1, 71), 0);
         Due.is("n 0", x.judge(0, 0), OUTSIDE);
         Due.is("n 5", x.judge(5, 0), OUTSIDE);
         Due.is("n -1", x.judge(-1, 0), OUTSIDE);
@@ -655,7 +661,7 @@ public final class PromiseTest {
         flickers(y, 5, 1, 1, 100000);
         flickers(y, 5, 9, 59049, 100000);
         flickers(y, 1, 2, 2101, 3125);
-        y.read(0, 0);
+        flickers(Due.room("ER050S3"), 1, 10, 0, 1);
         flickers(Due.room("ER013R090S0"), 1, 0, 1, 1);
         flickers(Due.room("ES0"), 0, 4, 1, 1);
         flickers(Due.room("ES0"), 1, 4, 0, 1);
@@ -690,7 +696,31 @@ public final class PromiseTest {
         }
         Due.is("three steps", x.seed(7), after);
         Due.is("nothing else changes", x.count(5) * 100 + x.count(7) * 10 + x.count(3) + x.count(4), 2);
+        Due.is("thirty", Due.room("ES0").winters(30), 0);
         oneWinter();
+        // Without the prism a bright sample is not seen; not told, a dark one is not expected.
+        twoWinters(20, "ER010S1", 1, 0);
+        twoWinters(21, "ER110S0", 0, 1);
+    }
+
+    /** First a reading of the one sample by the one reader, and then behind a turn of prism or told. */
+    private static void twoWinters(int turn, String text, int straight, int turned) {
+        boolean metStraight = false;
+        boolean metTurned = false;
+        for (long v = 0; v < 20000 && !(metStraight && metTurned); v++) {
+            long first = v * 6364136223846793005L + 1442695040888963407L;
+            long second = first * 6364136223846793005L + 1442695040888963407L;
+            long one = (first >>> 33) % 22;
+            if ((second >>> 33) % 22 != 0 || one != turn && one != 19) {
+                continue;
+            }
+            metStraight |= one == 19;
+            metTurned |= one == turn;
+            NewRays x = Due.room(text);
+            x.seed(v);
+            Due.is("winters " + one + " and 0", x.winters(2), one == turn ? turned : straight);
+        }
+        Due.holds("both were met", metStraight && metTurned);
     }
 
     /** Of each thing that may be left, by a seed that was looked for. */
