@@ -264,6 +264,14 @@ public final class ChanceEdgeTest {
         weary.read(0, 0);
         weary.read(0, 0);
         flickers(weary, 1, 10, 0, 1);
+        // More weary than it sees: the 1 comes on the "0 at least" that is left (NOTES.md).
+        NewRays worn = Due.room("ER012R022S1");
+        for (int i = 0; i < 9; i++) {
+            worn.read(0, 0);
+            worn.read(1, 0);
+        }
+        flickers(worn, 1, 3, 3, 10);
+        flickers(worn, 2, 10, 0, 1);
     }
 
     /** "THE SEED is v: what it was"; "(a long; 0 at first)". */

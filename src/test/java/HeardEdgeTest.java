@@ -214,6 +214,7 @@ public final class HeardEdgeTest {
         }
         for (int n : new int[] {Integer.MIN_VALUE, -1, 0, 7, 32, 33, Integer.MAX_VALUE}) {
             gone(yes, n, 1, 0, OUTSIDE);
+            gone(yes, n, 0, 0, OUTSIDE);
         }
     }
 

@@ -289,6 +289,7 @@ public final class RefusalTest {
     private static void goneByOutside() {
         for (int n : new int[] {MIN, -1, 0, 7, 8, 32, MAX}) {
             refused("gone, n " + n, OUTSIDE, x -> x.gone(0, n, 1, 0));
+            refused("gone, n " + n + ", row 0", OUTSIDE, x -> x.gone(0, n, 0, 0));
             refused("outside and state: gone, n " + n, OUTSIDE, x -> x.gone(0, n, 9, 0));
         }
         int[] ones = {0, 1, 11, 111, 1111, 11111, 111111};

@@ -245,26 +245,30 @@ public final class RoomEdgeTest {
      * "(THE ROW of ACTS is empty, what was kept is gone; HEARD, THE SEED stay)".
      */
     private static void madeAnew() {
-        NewRays x = Due.room("ER013S0");
+        NewRays x = Due.room("ER013R020S0");
         x.hear(0, 0, 0, 1);
         x.seed(Long.MIN_VALUE);
         for (int i = 0; i < 20; i++) {
-            x.read(0, 0);
+            x.read(i % 2, 0);
         }
+        Due.is("a yes and a no", x.sample(0, 2) * 10 + x.sample(0, 3), 12);
         x.keep(0);
         x.keep(1);
         x.prism();
         x.tell();
-        Due.is("the same text again", x.room(), 11);
-        int[] counts = {7, 1, 1, 1, 1, 0, 0, 0, 1};
+        Due.is("the same text again", x.room(), 21);
+        int[] counts = {11, 2, 1, 1, 1, 0, 0, 0, 1};
         for (int what = 0; what < 9; what++) {
             Due.is("anew: count " + what, x.count(what), counts[what]);
         }
-        Due.is("anew: readings", x.reader(0, 3), 0);
+        Due.is("anew: readings", x.reader(0, 3) + x.reader(1, 3), 0);
+        Due.is("anew: papers that say yes", x.sample(0, 2), 0);
+        Due.is("anew: papers that say no", x.sample(0, 3), 0);
         Due.is("anew: undo", x.undo(), STATE);
         Due.is("anew: again 0", x.again(0), STATE);
         Due.is("anew: again 1", x.again(1), STATE);
-        Due.is("anew: withdraw", x.withdraw(0, 0), STATE);
+        Due.is("anew: withdraw a yes", x.withdraw(0, 0), STATE);
+        Due.is("anew: withdraw a no", x.withdraw(1, 0), STATE);
         Due.is("anew: seed", x.seed(0), Long.MIN_VALUE);
         Due.is("anew: unhear", x.unhear(), 1);
     }
